@@ -57,8 +57,8 @@ public final class BaileyChain {
     private boolean hasSnapshot = false;
     /** A new pair is made here first, so that one that overflows leaves the state as it is. */
     private final Pair draft = new Pair();
-    private final Exact result = new Exact();
-    private final Exact term = new Exact();
+    private final Wide result = new Wide();
+    private final Wide term = new Wide();
     private final long[] ways = new long[MAX_COUNTED + 1];
     private final Partitions partitions = new Partitions();
     private final Input input = new Input();
@@ -593,14 +593,13 @@ public final class BaileyChain {
         return modulus >= 1 && modulus <= MAX_MODULUS && residues >= 0 && residues < 1 << modulus;
     }
 
-    /** Asks for a modulus that isResidueSet has looked at, which is at least 1. */
     private static boolean isInResidueSet(int number, int modulus, int residues) {
-        return modulus >= 1 && (residues >> number % modulus & 1) == 1;
+        return modulus >= 1 && ((residues >> (number % modulus)) & 1) == 1;
     }
 
     /** The byte of an integer at a place, the lowest at place 0. */
     private static int byteOf(int bytes, int place) {
-        return bytes >> 8 * place & 255;
+        return (bytes >> (8 * place)) & 255;
     }
 
     /** Stores the result in a register, unless it overflows. */
@@ -762,7 +761,7 @@ public final class BaileyChain {
      * coefficients, at most 24 of them, no sum that is formed here comes near a long's end (the
      * largest stay below 10^18), so that only the result itself is held against the range.
      */
-    private static final class Exact {
+    private static final class Wide {
         final long[] coefficients = new long[MAX_PRECISION];
         int length = MIN_PRECISION;
 
@@ -790,7 +789,7 @@ public final class BaileyChain {
             }
         }
 
-        void plusExact(Exact other, int factor) {
+        void plusWide(Wide other, int factor) {
             for (int k = 0; k < length; k++) {
                 coefficients[k] += factor * other.coefficients[k];
             }
@@ -893,7 +892,7 @@ public final class BaileyChain {
             }
         }
 
-        void setUnit(int newR, int length, Exact sum, Exact term) {
+        void setUnit(int newR, int length, Wide sum, Wide term) {
             r = newR;
             for (int n = 0; n < PAIR_SIZE; n++) {
                 Arrays.fill(beta[n], 0);
@@ -903,12 +902,12 @@ public final class BaileyChain {
         }
 
         /** Makes beta follow from alpha; answers false at an overflow. */
-        boolean deriveBeta(int length, Exact sum, Exact term) {
+        boolean deriveBeta(int length, Wide sum, Wide term) {
             for (int n = 0; n < PAIR_SIZE; n++) {
                 sum.setZero(length);
                 for (int j = 0; j <= n; j++) {
                     setRelationTerm(term, n, j, length);
-                    sum.plusExact(term, 1);
+                    sum.plusWide(term, 1);
                 }
                 if (!sum.fits()) {
                     return false;
@@ -919,13 +918,13 @@ public final class BaileyChain {
         }
 
         /** Makes alpha follow from beta, each from those before it; answers false at an overflow. */
-        boolean deriveAlpha(int length, Exact sum, Exact term) {
+        boolean deriveAlpha(int length, Wide sum, Wide term) {
             for (int n = 0; n < PAIR_SIZE; n++) {
                 sum.setZero(length);
                 sum.plusRow(beta[n], 1);
                 for (int j = 0; j < n; j++) {
                     setRelationTerm(term, n, j, length);
-                    sum.plusExact(term, -1);
+                    sum.plusWide(term, -1);
                 }
                 sum.timesFactors(r + 1, n + n);
                 if (!sum.fits()) {
@@ -937,7 +936,7 @@ public final class BaileyChain {
         }
 
         /** Sets the term to alpha(j) divided by (q)(n - j) and (a q)(n + j). */
-        private void setRelationTerm(Exact term, int n, int j, int length) {
+        private void setRelationTerm(Wide term, int n, int j, int length) {
             term.setZero(length);
             term.plusRow(alpha[j], 1);
             term.overFactors(1, n - j);
@@ -945,7 +944,7 @@ public final class BaileyChain {
         }
 
         /** Sets this pair to the one a step after another; answers false at an overflow. */
-        boolean setNextOf(Pair before, int length, Exact sum, Exact term) {
+        boolean setNextOf(Pair before, int length, Wide sum, Wide term) {
             r = before.r;
             for (int n = 0; n < PAIR_SIZE; n++) {
                 sum.setZero(length);
@@ -956,7 +955,7 @@ public final class BaileyChain {
                     term.setZero(length);
                     term.plusShifted(before.beta[j], stepPower(r, j));
                     term.overFactors(1, n - j);
-                    sum.plusExact(term, 1);
+                    sum.plusWide(term, 1);
                 }
                 if (!sum.fits()) {
                     return false;
@@ -1186,7 +1185,7 @@ public final class BaileyChain {
         }
 
         /** Adds the terms of the text to the sum; answers false if the text is malformed. */
-        boolean readSeries(Exact sum) {
+        boolean readSeries(Wide sum) {
             position = 0;
             boolean negative = takes('-');
             if (!readTerm(sum, negative)) {
@@ -1205,7 +1204,7 @@ public final class BaileyChain {
             return true;
         }
 
-        private boolean readTerm(Exact sum, boolean negative) {
+        private boolean readTerm(Wide sum, boolean negative) {
             int number = readDigits(NUMBER_DIGITS);
             int power = 0;
             if (takes('q')) {
