@@ -252,6 +252,10 @@ public final class PromiseTests {
         due("degree at N - 1", x.degree(0), 11);
         put(x, 0, "4");
         due("degree at 0", x.degree(0), 0);
+        x.reset(24);
+        due("degree of 0 at precision 24", x.degree(0), -7);
+        put(x, 0, "q^23");
+        due("degree at 23", x.degree(0), 23);
         due("register -1", x.degree(-1), -2);
         due("register 6", x.degree(6), -2);
     }
@@ -403,6 +407,10 @@ public final class PromiseTests {
         due("source -1", x.substitute(0, -1, 7), -2);
         due("within one register", x.substitute(0, 0, 2), 3);
         due("the result", show(x, 0), "2-q^2+3q^10");
+        x.reset(24);
+        put(x, 0, "1+q^3+q^23");
+        due("at precision 24", x.substitute(0, 0, 6), 2);
+        due("the result", show(x, 0), "1+q^18");
     }
 
     private static void product() {
@@ -424,6 +432,8 @@ public final class PromiseTests {
         due("the product", show(x, 0), "1-2q^2+q^4");
         due("cubed inverse", x.product(0, 12, 16, -3), 3);
         due("the product", show(x, 0), "1+3q^4+6q^8");
+        due("cubed", x.product(1, 12, 16, 3), 3);
+        due("the product", show(x, 1), "1-3q^4+3q^8");
         due("target 6", x.product(6, 0, 0, 4), -2);
         due("modulus 0", x.product(0, 0, 0, 1), -1);
         due("modulus 13", x.product(0, 13, 0, 1), -1);
@@ -464,6 +474,9 @@ public final class PromiseTests {
         due("at -1", x.valueAt(0, -1), 1000002);
         due("at 1000003", x.valueAt(0, 1000003), 1);
         due("at -1000003", x.valueAt(0, -1000003), 1);
+        x.reset(24);
+        put(x, 0, "1-q+3q^5");
+        due("at 2 and precision 24", x.valueAt(0, 2), 95);
         put(x, 1, "q^11");
         due("2^31 - 1, to the power 1", lineAt(x, HIGHEST), Math.floorMod((long) HIGHEST, 1000003L));
         due("-2^31, to the power 1", lineAt(x, LOWEST), Math.floorMod((long) LOWEST, 1000003L));
@@ -497,6 +510,23 @@ public final class PromiseTests {
         due("equal ones are no records", x.statistic(1, 4), 2);
         x.setCoefficient(2, 0, -LIMIT);
         due("largest", x.statistic(2, 3), LIMIT);
+        due("negative", x.statistic(2, 1), 1);
+        put(x, 1, "1-1q+2q^2+3q^3+4q^4");
+        due("sign changes", x.statistic(1, 2), 2);
+        due("records", x.statistic(1, 4), 4);
+        put(x, 1, "1+2q+q^2-q^3-q^11");
+        due("one sign change", x.statistic(1, 2), 1);
+        due("records", x.statistic(1, 4), 2);
+        put(x, 1, "-1-2q-3q^11");
+        due("no sign change", x.statistic(1, 2), 0);
+        put(x, 1, "q^3+q^5");
+        due("no sign change", x.statistic(1, 2), 0);
+        x.reset(24);
+        put(x, 0, "-2q+q^22-9q^23");
+        int[] atTwentyFour = {3, 2, 2, 9, 2};
+        for (int kind = 0; kind < 5; kind++) {
+            due("at precision 24, kind " + kind, x.statistic(0, kind), atTwentyFour[kind]);
+        }
         due("kind -1", x.statistic(0, -1), -1);
         due("kind 5", x.statistic(0, 5), -1);
         due("register 6", x.statistic(6, 5), -2);
@@ -538,7 +568,10 @@ public final class PromiseTests {
         due("alpha(4)", alpha(x, 4), "q^6+q^7+q^8+q^9+q^10+q^11");
         due("beta(0)", beta(x, 0), "1");
         due("beta(4)", beta(x, 4), "0");
+        put(x, 1, "2+q");
+        due("setBeta(0, 1)", x.setBeta(0, 1), 1);
         due("unitPair(0)", x.unitPair(0), 0);
+        due("beta(0)", beta(x, 0), "1");
         due("alpha(3)", alpha(x, 3), "-q^3-q^6");
         due("alpha(4)", alpha(x, 4), "q^6+q^10");
         due("registers stay", x.order(0), -7);
@@ -572,6 +605,9 @@ public final class PromiseTests {
         due("register -1", x.setAlpha(-1, -1), -2);
         due("n = 5", x.setAlpha(5, 0), -1);
         due("n = -1", x.setAlpha(-1, 0), -1);
+        put(x, 3, "3-q^2");
+        due("setAlpha(0, 3)", x.setAlpha(0, 3), 1);
+        due("beta(0) is alpha(0)", beta(x, 0), "3-q^2");
         x.unitPair(0);
         x.step();
         x.setCoefficient(2, 0, 51000000);
@@ -703,6 +739,16 @@ public final class PromiseTests {
         due("undoStep", x.undoStep(), -5);
         x.setAlpha(0, 0);
         due("after setAlpha", x.undoStep(), -5);
+        x.reset(24);
+        String[] betas = new String[15];
+        for (int i = 0; i < 15; i++) {
+            betas[i] = alpha(x, 1) + beta(x, 4);
+            x.step();
+        }
+        for (int i = 14; i >= 7; i--) {
+            due("undoStep", x.undoStep(), i);
+            due("the pair before it", alpha(x, 1) + beta(x, 4), betas[i]);
+        }
     }
 
     private static void chainLength() {
@@ -1222,6 +1268,11 @@ public final class PromiseTests {
         due("a shorter array of zeros", x.compareWithArray(0, 0), 2);
         x.allocate(0, 0, 0);
         due("an array without elements", x.compareWithArray(0, 1), 0);
+        x.allocate(1, 0, 40);
+        x.allocate(2, 0, 24);
+        x.reset(24);
+        due("an array of 40", x.compareWithArray(1, 0), 24);
+        due("an array of 24", x.compareWithArray(2, 0), -7);
         due("slot 4", x.compareWithArray(4, 6), -1);
         due("slot -1", x.compareWithArray(-1, 6), -1);
         due("register 6", x.compareWithArray(3, 6), -2);
@@ -1290,8 +1341,60 @@ public final class PromiseTests {
         due("the pair", alpha(x, 0) + alpha(x, 1) + beta(x, 1) + beta(x, 4), pair);
         x.reset(24);
         x.restore();
-        x.step();
-        due("r is restored", x.undoStep() + alpha(x, 1), "8-q^16-q^17-q^18");
+        due("alpha(1) of r = 1", alpha(x, 1), "-q^16-q^17-q^18");
+        due("step", x.step(), 9);
+        due("alpha(1) of r = 1", alpha(x, 1), "-q^18-q^19-q^20");
+        restoredPairs();
+    }
+
+    private static void restoredPairs() {
+        BaileyChain x = new BaileyChain();
+        x.reset(9);
+        x.unitPair(1);
+        put(x, 0, "2-q");
+        x.setBeta(0, 0);
+        String[] pairs = new String[4];
+        for (int i = 0; i < 4; i++) {
+            pairs[i] = wholePair(x);
+            x.step();
+        }
+        x.snapshot();
+        x.reset(6);
+        for (int i = 0; i < 6; i++) {
+            x.step();
+        }
+        due("restore", x.restore(), 9);
+        for (int i = 3; i >= 0; i--) {
+            due("undoStep", x.undoStep(), i);
+            due("the pair", wholePair(x), pairs[i]);
+        }
+        x.reset(5);
+        due("restore", x.restore(), 9);
+        for (int i = 0; i < 4; i++) {
+            x.undoStep();
+        }
+        x.snapshot();
+        x.reset(4);
+        x.restore();
+        for (int i = 1; i < 4; i++) {
+            due("step", x.step(), i);
+            due("the pair", wholePair(x), pairs[i]);
+        }
+        put(x, 0, "1-q");
+        x.snapshot();
+        x.reset(4);
+        x.restore();
+        due("a quotient at the restored precision", x.divide(1, 0, 0), 1);
+        x.shift(1, 0, 8);
+        due("a product at the restored precision", show(x, 1), "q^8");
+    }
+
+    private static String wholePair(BaileyChain x) {
+        StringBuilder text = new StringBuilder();
+        for (int n = 0; n < 5; n++) {
+            text.append(alpha(x, n)).append(' ').append(beta(x, n)).append(' ');
+        }
+        return text.toString();
     }
 
     private static void put5(BaileyChain x) {
