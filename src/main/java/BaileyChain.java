@@ -265,39 +265,11 @@ public final class BaileyChain {
     }
 
     public int setAlpha(int n, int register) {
-        if (!isRegister(register)) {
-            return NO_SUCH_REGISTER;
-        }
-        if (!isPairIndex(n)) {
-            return BAD_ARGUMENT;
-        }
-        int[] row = state.registers[register];
-        boolean changes = lowestDifference(state.pair.alpha[n], row) != NONE;
-        draft.copyFrom(state.pair);
-        copyRow(row, draft.alpha[n]);
-        if (!draft.deriveBeta(state.length, result, term)) {
-            return OVERFLOW;
-        }
-        state.setPair(draft);
-        return changes ? 1 : 0;
+        return setInPair(n, register, true);
     }
 
     public int setBeta(int n, int register) {
-        if (!isRegister(register)) {
-            return NO_SUCH_REGISTER;
-        }
-        if (!isPairIndex(n)) {
-            return BAD_ARGUMENT;
-        }
-        int[] row = state.registers[register];
-        boolean changes = lowestDifference(state.pair.beta[n], row) != NONE;
-        draft.copyFrom(state.pair);
-        copyRow(row, draft.beta[n]);
-        if (!draft.deriveAlpha(state.length, result, term)) {
-            return OVERFLOW;
-        }
-        state.setPair(draft);
-        return changes ? 1 : 0;
+        return setInPair(n, register, false);
     }
 
     public int step() {
@@ -321,25 +293,11 @@ public final class BaileyChain {
     }
 
     public int copyAlpha(int target, int n) {
-        if (!isRegister(target)) {
-            return NO_SUCH_REGISTER;
-        }
-        if (!isPairIndex(n)) {
-            return BAD_ARGUMENT;
-        }
-        copyRow(state.pair.alpha[n], state.registers[target]);
-        return countNonzero(state.registers[target]);
+        return copyToRegister(target, n, state.pair.alpha);
     }
 
     public int copyBeta(int target, int n) {
-        if (!isRegister(target)) {
-            return NO_SUCH_REGISTER;
-        }
-        if (!isPairIndex(n)) {
-            return BAD_ARGUMENT;
-        }
-        copyRow(state.pair.beta[n], state.registers[target]);
-        return countNonzero(state.registers[target]);
+        return copyToRegister(target, n, state.pair.beta);
     }
 
     public int sumSide(int target) {
@@ -571,6 +529,40 @@ public final class BaileyChain {
         // No coefficient of the unit pair comes near the range's end, so this never overflows.
         draft.setUnit(r, state.length, result, term);
         state.setPair(draft);
+    }
+
+    /** Sets alpha(n) or beta(n); the other kind of series follows, and may overflow. */
+    private int setInPair(int n, int register, boolean isAlpha) {
+        if (!isRegister(register)) {
+            return NO_SUCH_REGISTER;
+        }
+        if (!isPairIndex(n)) {
+            return BAD_ARGUMENT;
+        }
+        draft.copyFrom(state.pair);
+        int[] row = state.registers[register];
+        int[] old = isAlpha ? draft.alpha[n] : draft.beta[n];
+        boolean changes = lowestDifference(old, row) != NONE;
+        copyRow(row, old);
+        boolean fits = isAlpha
+                ? draft.deriveBeta(state.length, result, term)
+                : draft.deriveAlpha(state.length, result, term);
+        if (!fits) {
+            return OVERFLOW;
+        }
+        state.setPair(draft);
+        return changes ? 1 : 0;
+    }
+
+    private int copyToRegister(int target, int n, int[][] rows) {
+        if (!isRegister(target)) {
+            return NO_SUCH_REGISTER;
+        }
+        if (!isPairIndex(n)) {
+            return BAD_ARGUMENT;
+        }
+        copyRow(rows[n], state.registers[target]);
+        return countNonzero(state.registers[target]);
     }
 
     private static boolean isRegister(int register) {

@@ -477,6 +477,8 @@ public final class PromiseTests {
         x.reset(24);
         put(x, 0, "1-q+3q^5");
         due("at 2 and precision 24", x.valueAt(0, 2), 95);
+        put(x, 1, "q^23");
+        due("2^23", x.valueAt(1, 2), 8388608 % 1000003);
         put(x, 1, "q^11");
         due("2^31 - 1, to the power 1", lineAt(x, HIGHEST), Math.floorMod((long) HIGHEST, 1000003L));
         due("-2^31, to the power 1", lineAt(x, LOWEST), Math.floorMod((long) LOWEST, 1000003L));
@@ -1344,6 +1346,13 @@ public final class PromiseTests {
         due("alpha(1) of r = 1", alpha(x, 1), "-q^16-q^17-q^18");
         due("step", x.step(), 9);
         due("alpha(1) of r = 1", alpha(x, 1), "-q^18-q^19-q^20");
+        due("a snapshot of eight steps", x.snapshot(), 24);
+        x.unitPair(0);
+        due("restore", x.restore(), 24);
+        for (int i = 8; i >= 1; i--) {
+            due("undoStep", x.undoStep(), i);
+        }
+        due("undoStep", x.undoStep(), -5);
         restoredPairs();
     }
 
@@ -1381,10 +1390,11 @@ public final class PromiseTests {
             due("the pair", wholePair(x), pairs[i]);
         }
         put(x, 0, "1-q");
+        put(x, 1, "1");
         x.snapshot();
         x.reset(4);
         x.restore();
-        due("a quotient at the restored precision", x.divide(1, 0, 0), 1);
+        due("a quotient at the restored precision", x.divide(1, 1, 0), 9);
         x.shift(1, 0, 8);
         due("a product at the restored precision", show(x, 1), "q^8");
     }
