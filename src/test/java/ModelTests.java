@@ -66,8 +66,12 @@ public final class ModelTests {
                 for (int i = 0; i < kinds.length(); i++) {
                     a[i] = argument(kinds.charAt(i), random, size);
                 }
-                if (!same(method[0], a, real, model, said, run)) {
-                    return;
+                // Long chains, now and then, so that steps are forgotten.
+                int times = method[0].equals("step") && random.nextInt(6) == 0 ? 12 : 1;
+                for (int time = 0; time < times; time++) {
+                    if (!same(method[0], a, real, model, said, run)) {
+                        return;
+                    }
                 }
             }
         }
