@@ -123,8 +123,10 @@ abstract class Check {
 
     static String output(BaileyChain x) {
         StringBuilder text = new StringBuilder();
-        for (int i = 0; x.outputByte(i) >= 0; i++) {
-            text.append((char) x.outputByte(i));
+        int value = x.outputByte(0);
+        for (int i = 1; value >= 0; i++) {
+            text.append((char) value);
+            value = x.outputByte(i);
         }
         return text.toString();
     }
@@ -141,16 +143,20 @@ abstract class Check {
 
     static String partition(BaileyChain x, int index) {
         StringBuilder text = new StringBuilder();
-        for (int i = 0; x.part(index, i) > 0; i++) {
-            text.append(i == 0 ? "" : " ").append(x.part(index, i));
+        int part = x.part(index, 0);
+        for (int i = 1; part > 0; i++) {
+            text.append(i == 1 ? "" : " ").append(part);
+            part = x.part(index, i);
         }
         return text.toString();
     }
 
     static String elements(BaileyChain x, int slot) {
         StringBuilder text = new StringBuilder();
-        for (int i = 0; x.element(slot, i) != NO_VALUE; i++) {
-            text.append(i == 0 ? "" : " ").append(x.element(slot, i));
+        long value = x.element(slot, 0);
+        for (int i = 1; value != NO_VALUE; i++) {
+            text.append(i == 1 ? "" : " ").append(value);
+            value = x.element(slot, i);
         }
         return text.toString();
     }

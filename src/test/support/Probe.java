@@ -18,10 +18,10 @@ final class Probe {
         PARTS.put("pair", Probe::pair);
         PARTS.put("parameter", Probe::parameter);
         PARTS.put("steps", Probe::steps);
-        PARTS.put("snapshot", x -> x.restore() + " " + registers(x));
-        PARTS.put("snapshot's pair", x -> x.restore() + " " + pair(x));
-        PARTS.put("snapshot's parameter", x -> x.restore() + " " + parameter(x));
-        PARTS.put("snapshot's steps", x -> x.restore() + " " + steps(x));
+        PARTS.put("snapshot", x -> restored(x, Probe::registers));
+        PARTS.put("snapshot's pair", x -> restored(x, Probe::pair));
+        PARTS.put("snapshot's parameter", x -> restored(x, Probe::parameter));
+        PARTS.put("snapshot's steps", x -> restored(x, Probe::steps));
         PARTS.put("list", Probe::list);
         PARTS.put("input", x -> String.valueOf(x.clearInput()));
         PARTS.put("input's text", Probe::inputAsSeries);
@@ -151,6 +151,11 @@ final class Probe {
         BaileyChain x = new BaileyChain();
         calls.accept(x);
         return x;
+    }
+
+    private static String restored(BaileyChain x, Function<BaileyChain, String> part) {
+        int answer = x.restore();
+        return answer < 0 ? "answer " + answer : answer + " " + part.apply(x);
     }
 
     private static String registers(BaileyChain x) {
