@@ -14,6 +14,7 @@ public final class DetailTests extends Check {
         rememberedSteps();
         chainLength();
         stepsBeforeASetting();
+        otherSeriesStay();
         calls();
         texts();
         words();
@@ -23,13 +24,15 @@ public final class DetailTests extends Check {
         lists();
         outputs();
         snapshots();
+        restoredPrecision();
+        countsAgain();
         questionsChangeNothing();
         whatCallsLeaveAlone();
         end();
     }
 
     private static void newCalculator() {
-        about("Description", "A new calculator has precision 12");
+        about("Promise 1", "Creates a calculator with precision 12");
         due("precision", new BaileyChain().precision(), 12);
         about("Description", "all registers are 0");
         for (int register = 0; register < 6; register++) {
@@ -341,7 +344,7 @@ public final class DetailTests extends Check {
     }
 
     private static void chainLength() {
-        about("Details", "the chain length counts steps also if there are more than can be undone");
+        about("Promise 23", "the chain length counts steps also if there are more than can be undone");
         BaileyChain x = unit(24, 0);
         for (int i = 1; i <= 100; i++) {
             due("step", x.step(), i);
@@ -392,6 +395,54 @@ public final class DetailTests extends Check {
             due("undoStep", x.undoStep(), 1);
             due("undoStep", x.undoStep(), 0);
         }
+    }
+
+    private static void otherSeriesStay() {
+        List<Consumer<BaileyChain>> before = List.of(
+                x -> { },
+                BaileyChain::step,
+                x -> {
+                    x.step();
+                    x.undoStep();
+                },
+                x -> {
+                    x.snapshot();
+                    x.unitPair(0);
+                    x.restore();
+                },
+                x -> {
+                    set(x, 1, LIMIT, LIMIT);
+                    due("a setting that overflows", x.setAlpha(4, 1), OVERFLOW);
+                    due("a setting that overflows", x.setBeta(4, 1), OVERFLOW);
+                });
+        for (Consumer<BaileyChain> calls : before) {
+            for (int n = 0; n < 5; n++) {
+                BaileyChain x = unit(9, 1);
+                calls.accept(x);
+                set(x, 0, 3, -1, 2);
+                String[] alphas = allOf(x, true);
+                about("Promise 19", "The other series alpha stay");
+                due("setAlpha", x.setAlpha(n, 0), 1);
+                alphas[n] = "3-q+2q^2";
+                due("the series alpha", String.join(" ", allOf(x, true)), String.join(" ", alphas));
+                BaileyChain y = unit(9, 1);
+                calls.accept(y);
+                set(y, 0, 3, -1, 2);
+                String[] betas = allOf(y, false);
+                about("Promise 20", "The other series beta stay");
+                due("setBeta", y.setBeta(n, 0), 1);
+                betas[n] = "3-q+2q^2";
+                due("the series beta", String.join(" ", allOf(y, false)), String.join(" ", betas));
+            }
+        }
+    }
+
+    private static String[] allOf(BaileyChain x, boolean isAlpha) {
+        String[] texts = new String[5];
+        for (int n = 0; n < 5; n++) {
+            texts[n] = isAlpha ? alpha(x, n) : beta(x, n);
+        }
+        return texts;
     }
 
     private static void calls() {
@@ -568,6 +619,7 @@ public final class DetailTests extends Check {
             x.setCoefficient(0, 0, -1);
             due("negative", x.statistic(0, 1), 2);
             due("no sign change", x.statistic(0, 2), 0);
+            onePower(n);
         }
         about("Promise 16", "each kind of the series 0, and of a series that changes its sign each time");
         int[] ofZero = {0, 0, 0, 0, 1};
@@ -579,6 +631,24 @@ public final class DetailTests extends Check {
         for (int kind = 0; kind < 5; kind++) {
             due("of 0, kind " + kind, x.statistic(0, kind), ofZero[kind]);
             due("of changes, kind " + kind, x.statistic(1, kind), ofChanges[kind]);
+        }
+    }
+
+    /** A coefficient counts at each power from 0 to N - 1, with another one before or after it. */
+    private static void onePower(int n) {
+        for (int power = 0; power < n; power++) {
+            BaileyChain x = at(n);
+            x.setCoefficient(0, power, -7);
+            due("nonzero at " + power, x.statistic(0, 0), 1);
+            due("negative at " + power, x.statistic(0, 1), 1);
+            due("largest at " + power, x.statistic(0, 3), 7);
+            due("larger than " + power, x.statistic(0, 4), power == 0 ? 2 : 1);
+            x.setCoefficient(0, power, 7);
+            due("larger at " + power, x.statistic(0, 4), power == 0 ? 1 : 2);
+            x.setCoefficient(0, (power + 1) % n, -7);
+            due("a sign change at " + power, x.statistic(0, 2), 1);
+            due("its order", x.order(0), power == n - 1 ? 0 : power);
+            due("its degree", x.degree(0), Math.max(power, (power + 1) % n));
         }
     }
 
@@ -656,6 +726,18 @@ public final class DetailTests extends Check {
         due("its last part", x.part(230, 15), 1);
     }
 
+    private static void countsAgain() {
+        about("Promise 28", "Counts the partitions: a count is the same after any other one");
+        BaileyChain x = new BaileyChain();
+        due("of 60", x.countPartitions(60, 1, 1), 966467);
+        due("of 60, without residues", x.countPartitions(60, 12, 0), 0);
+        due("of 5", x.countPartitions(5, 1, 1), 7);
+        due("of 0", x.countPartitions(0, 12, 0), 1);
+        due("of 61", x.countPartitions(61, 1, 1), NO_VALUE);
+        due("of 1", x.countPartitions(1, 2, 1), 0);
+        due("of 60 again", x.countPartitions(60, 1, 1), 966467);
+    }
+
     private static void outputs() {
         about("Promise 35", "Writes a register as text to the output buffer, replacing its content");
         BaileyChain x = new BaileyChain();
@@ -718,6 +800,42 @@ public final class DetailTests extends Check {
         }
     }
 
+    private static void restoredPrecision() {
+        about("Promise 44", "Restores the snapshot: the very next operation is one at the restored precision");
+        List<ToLongFunction<BaileyChain>> operations = List.of(
+                x -> x.add(2, 0, 1, 1), x -> x.multiply(2, 0, 1), x -> x.divide(2, 0, 1), x -> x.shift(2, 0, 3),
+                x -> x.substitute(2, 0, 2), x -> x.product(2, 1, 1, -1), x -> x.sumSide(2), x -> x.productSide(2),
+                x -> x.copyBeta(2, 4), x -> x.parseSeries(2), BaileyChain::step, x -> x.setAlpha(1, 0),
+                x -> x.setBeta(1, 0), x -> x.unitPair(1), BaileyChain::undoStep);
+        for (int precision : new int[] {4, 9, 23, 24}) {
+            for (int between : new int[] {4, 5, 24}) {
+                for (ToLongFunction<BaileyChain> operation : operations) {
+                    BaileyChain x = ones(precision);
+                    x.snapshot();
+                    x.reset(between);
+                    x.restore();
+                    BaileyChain never = ones(precision);
+                    due("the answer", operation.applyAsLong(x), operation.applyAsLong(never));
+                    due("the result", show(x, 2), show(never, 2));
+                    due("the pair", wholePair(x), wholePair(never));
+                }
+            }
+        }
+    }
+
+    /** Registers 0 and 1 have a coefficient at each power, the chain has two steps, and the input holds a text. */
+    private static BaileyChain ones(int precision) {
+        BaileyChain x = at(precision);
+        for (int k = 0; k < precision; k++) {
+            x.setCoefficient(0, k, k + 2);
+            x.setCoefficient(1, k, k % 3 == 0 ? 1 : 0);
+        }
+        x.step();
+        x.step();
+        type(x, "q^3+q^4+q^8+q^9+q^22+q^23");
+        return x;
+    }
+
     private static void questionsChangeNothing() {
         about("Series", "a question changes nothing that later calls show");
         List<ToLongFunction<BaileyChain>> questions = List.of(
@@ -732,8 +850,8 @@ public final class DetailTests extends Check {
     }
 
     private static void whatCallsLeaveAlone() {
-        List<String> state = List.of("registers", "pair", "parameter", "steps");
-        List<String> pair = List.of("pair", "parameter", "steps");
+        List<String> state = List.of("registers", "pair", "parameter", "pair after a setting", "steps");
+        List<String> pair = List.of("pair", "parameter", "pair after a setting", "steps");
         List<String> registers = List.of("registers");
         about("Promise 2", "The partition list, the buffers, the array slots and the snapshot keep their content");
         // The parts of a snapshot stay, so a reset to any precision leaves all but the state.

@@ -17,6 +17,7 @@ final class Probe {
         PARTS.put("registers", Probe::registers);
         PARTS.put("pair", Probe::pair);
         PARTS.put("parameter", Probe::parameter);
+        PARTS.put("pair after a setting", Probe::setting);
         PARTS.put("steps", Probe::steps);
         PARTS.put("snapshot", x -> restored(x, Probe::registers));
         PARTS.put("snapshot's pair", x -> restored(x, Probe::pair));
@@ -190,14 +191,26 @@ final class Probe {
         return x.step() + " " + pair(x);
     }
 
+    /** A setting shows whether something of a refused one was kept aside. */
+    private static String setting(BaileyChain x) {
+        Check.set(x, 0, 2, 1);
+        StringBuilder text = new StringBuilder().append(x.setAlpha(2, 0));
+        appendValues(text, x);
+        return text.toString();
+    }
+
+    private static void appendValues(StringBuilder text, BaileyChain x) {
+        for (int n = 0; n < 5; n++) {
+            text.append(' ').append(Check.kept(x, x.copyAlpha(0, n), 0));
+            text.append(' ').append(Check.kept(x, x.copyBeta(0, n), 0));
+        }
+    }
+
     private static String steps(BaileyChain x) {
         StringBuilder text = new StringBuilder().append(x.chainLength());
         for (int i = 0; i < 9; i++) {
             text.append(" to ").append(x.undoStep());
-            for (int n = 0; n < 5; n++) {
-                text.append(' ').append(Check.kept(x, x.copyAlpha(0, n), 0));
-                text.append(' ').append(Check.kept(x, x.copyBeta(0, n), 0));
-            }
+            appendValues(text, x);
         }
         return text.toString();
     }
