@@ -15,8 +15,9 @@ import java.util.regex.Pattern;
  * written another way (big integers, closed formulas, regular expressions); the answers must agree.
  */
 public final class ModelTests {
-    private static final int RUNS = 500;
-    private static final int CALLS = 300;
+    private static final int RUNS = 800;
+    /** With one text more, and what is read of the pairs, an object stays below the 512 calls that it is promised for. */
+    private static final int CALLS = 320;
     private static int wrong = 0;
 
     /**
@@ -47,88 +48,115 @@ public final class ModelTests {
         }
     }
 
-    private static void oneRun(int run) {
-        Random random = new Random(20261118L + run);
-        BaileyChain real = new BaileyChain();
-        Model model = new Model();
-        List<String> said = new ArrayList<>();
-        int size = run % 4;
-        for (int call = 0; call < CALLS; call++) {
+    private static void oneRun(int number) {
+        Random random = new Random(20261118L + number);
+        Run run = new Run(number);
+        int size = number % 4;
+        while (run.said.size() < CALLS) {
             String[] method = METHODS[random.nextInt(METHODS.length)].split(" ");
             if (method[0].equals("append") || random.nextInt(12) == 0) {
-                if (!sameText(random, real, model, said, run)) {
+                if (!sameText(random, run)) {
                     return;
                 }
             } else if (!method[0].matches("reset|release|unitPair") || random.nextInt(5) == 0) {
                 // These are called less often, as the state is small after them.
                 String kinds = method.length > 1 ? method[1] : "";
-                long[] a = new long[5];
+                long[] a = new long[kinds.length()];
                 for (int i = 0; i < kinds.length(); i++) {
                     a[i] = argument(kinds.charAt(i), random, size);
                 }
                 // Long chains, now and then, so that steps are forgotten.
                 int times = method[0].equals("step") && random.nextInt(6) == 0 ? 12 : 1;
                 for (int time = 0; time < times; time++) {
-                    if (!same(method[0], a, real, model, said, run)) {
+                    if (!run.same(method[0], a)) {
                         return;
                     }
                 }
             }
         }
-        sameState(real, model, said, run);
+        sameState(run);
     }
 
-    /** Reads all that can be read; the state is not used after it. */
-    private static void sameState(BaileyChain real, Model model, List<String> said, int run) {
-        boolean same = sameRegisters(real, model, said, run);
-        for (int time = 0; time < 2 && same; time++) {
-            same = samePair(real, model, said, run);
-            for (int undo = 0; undo < 9 && same; undo++) {
-                same = same("undoStep", new long[5], real, model, said, run) && samePair(real, model, said, run);
-            }
-            same = same && same("restore", new long[5], real, model, said, run)
-                    && sameRegisters(real, model, said, run);
+    /** Reads all that can be read; each part that changes the state goes back to the run's end. */
+    private static void sameState(Run run) {
+        run.markEnd();
+        boolean same = sameRegisters(run) && sameSlots(run) && sameList(run) && sameOutput(run) && sameChain(run);
+        if (same) {
+            run.goToEnd();
+            same = run.same("restore") && sameRegisters(run);
         }
-        for (int slot = 0; slot < 4 && same; slot++) {
-            for (int i = 0; i <= 40 && same; i++) {
-                same = same("element", new long[] {slot, i, 0, 0, 0}, real, model, said, run);
-            }
-        }
-        for (int i = 0; i < 240 && same; i++) {
-            for (int j = 0; j < 17 && same; j++) {
-                same = same("part", new long[] {i, j, 0, 0, 0}, real, model, said, run);
-            }
-            same = same && same("outputByte", new long[] {i, 0, 0, 0, 0}, real, model, said, run);
+        if (same) {
+            run.goToEnd();
+            same = run.same("restore") && sameChain(run);
         }
     }
 
-    private static boolean sameRegisters(BaileyChain real, Model model, List<String> said, int run) {
+    private static boolean sameRegisters(Run run) {
         for (int register = 0; register < 6; register++) {
             for (int power = 0; power <= 24; power++) {
-                if (!same("coefficient", new long[] {register, power, 0, 0, 0}, real, model, said, run)) {
+                if (!run.same("coefficient", register, power)) {
                     return false;
                 }
             }
         }
-        return same("precision", new long[5], real, model, said, run)
-                && same("chainLength", new long[5], real, model, said, run);
+        return run.same("precision") && run.same("chainLength");
     }
 
-    private static boolean samePair(BaileyChain real, Model model, List<String> said, int run) {
-        for (String method : new String[] {"copyAlpha", "copyBeta"}) {
-            for (int n = 0; n < 5; n++) {
-                if (!same(method, new long[] {n, n, 0, 0, 0}, real, model, said, run)) {
+    private static boolean sameSlots(Run run) {
+        for (int slot = 0; slot < 4; slot++) {
+            for (int i = 0; i <= 40; i++) {
+                if (!run.same("element", slot, i)) {
                     return false;
                 }
             }
-            if (!sameRegisters(real, model, said, run)) {
+        }
+        return true;
+    }
+
+    /** The parts of each partition with the place behind its last one, and the place behind the list. */
+    private static boolean sameList(Run run) {
+        List<List<Integer>> list = run.model.partitions;
+        for (int index = 0; index < list.size(); index++) {
+            for (int part = 0; part <= list.get(index).size(); part++) {
+                if (!run.same("part", index, part)) {
+                    return false;
+                }
+            }
+        }
+        return run.same("part", list.size(), 0);
+    }
+
+    private static boolean sameOutput(Run run) {
+        for (int i = 0; i <= run.model.output.length(); i++) {
+            if (!run.same("outputByte", i)) {
                 return false;
             }
         }
         return true;
     }
 
-    private static boolean sameText(Random random, BaileyChain real, Model model, List<String> said, int run) {
+    /** The pair, and those before it as far as steps can be undone. */
+    private static boolean sameChain(Run run) {
+        boolean same = samePair(run);
+        for (int undo = 0; undo < 9 && same; undo++) {
+            boolean nothing = run.model.now.remembered.isEmpty();
+            same = run.same("undoStep") && (nothing || samePair(run));
+        }
+        return same;
+    }
+
+    /** Tells series apart by their values at a point, to stay within the calls of an object. */
+    private static boolean samePair(Run run) {
+        for (int n = 0; n < 5; n++) {
+            if (!run.same("copyAlpha", n, n) || !run.same("valueAt", n, 1000)
+                    || !run.same("copyBeta", n, n) || !run.same("valueAt", n, 1000)) {
+                return false;
+            }
+        }
+        return true;
+    }
+
+    private static boolean sameText(Random random, Run run) {
         String text = randomText(random);
         for (int at = 0; at < text.length(); ) {
             int count = Math.min(1 + random.nextInt(4), text.length() - at);
@@ -143,7 +171,7 @@ public final class ModelTests {
             if (random.nextInt(200) == 0) {
                 bytes = random.nextInt();
             }
-            if (!same("append", new long[] {bytes, count, 0, 0, 0}, real, model, said, run)) {
+            if (!run.same("append", bytes, count)) {
                 return false;
             }
         }
@@ -152,7 +180,7 @@ public final class ModelTests {
         }
         long register = argument('r', random, 0);
         boolean word = text.length() > 2 && Character.isLetter(text.charAt(0)) && Character.isLetter(text.charAt(1));
-        return same(word ? "filterPartitions" : "parseSeries", new long[] {register, 0, 0, 0, 0}, real, model, said, run);
+        return word ? run.same("filterPartitions") : run.same("parseSeries", register);
     }
 
     private static String randomText(Random random) {
@@ -283,20 +311,81 @@ public final class ModelTests {
         }
     }
 
-    private static boolean same(String method, long[] a, BaileyChain real, Model model, List<String> said, int run) {
-        long want = model.call(method, a);
-        long got = call(real, method, a);
-        said.add(method + Arrays.toString(a) + ": " + want);
-        if (got == want) {
-            return true;
+    /**
+     * A calculator and the model, asked the same. A calculator is promised for 512 calls: one that has taken them is
+     * followed by a new one, brought to the same state by the calls that can change something.
+     */
+    private static final class Run {
+        static final int PROMISED = 512;
+        static final String READING = "precision|coefficient|order|degree|firstDifference|valueAt|statistic"
+                + "|registerByRank|chainLength|countPartitions|part|outputByte|element|compareWithArray";
+
+        final int number;
+        final Model model = new Model();
+        final List<String> said = new ArrayList<>();
+        private final List<String> changing = new ArrayList<>();
+        private final List<long[]> arguments = new ArrayList<>();
+        private BaileyChain real = new BaileyChain();
+        private int asked = 0;
+        private int changingAtEnd = 0;
+        private Kept end = null;
+
+        Run(int number) {
+            this.number = number;
         }
-        wrong++;
-        System.out.println("run " + run + ", call " + said.size() + ": " + method + Arrays.toString(a) + " answered " + got
-                + ", due is " + want);
-        for (int i = Math.max(0, said.size() - 12); i < said.size(); i++) {
-            System.out.println("    " + said.get(i));
+
+        void markEnd() {
+            changingAtEnd = changing.size();
+            end = model.now.copy();
         }
-        return false;
+
+        /** What is read after the end changes no more of the model than what a snapshot keeps. */
+        void goToEnd() {
+            changing.subList(changingAtEnd, changing.size()).clear();
+            arguments.subList(changingAtEnd, arguments.size()).clear();
+            model.now = end.copy();
+            makeAgain();
+        }
+
+        private void makeAgain() {
+            real = new BaileyChain();
+            asked = 0;
+            for (int i = 0; i < changing.size(); i++) {
+                ask(changing.get(i), arguments.get(i));
+            }
+        }
+
+        private long ask(String method, long[] a) {
+            asked++;
+            if (asked > PROMISED) {
+                throw new IllegalStateException("run " + number + " asks an object more than it is promised for");
+            }
+            return call(real, method, a);
+        }
+
+        boolean same(String method, long... some) {
+            long[] a = Arrays.copyOf(some, 5);
+            if (asked == PROMISED) {
+                makeAgain();
+            }
+            long want = model.call(method, a);
+            long got = ask(method, a);
+            said.add(method + Arrays.toString(some) + ": " + want);
+            if (!method.matches(READING)) {
+                changing.add(method);
+                arguments.add(a);
+            }
+            if (got == want) {
+                return true;
+            }
+            wrong++;
+            System.out.println("run " + number + ", call " + said.size() + ": " + method + Arrays.toString(some)
+                    + " answered " + got + ", due is " + want);
+            for (int i = Math.max(0, said.size() - 12); i < said.size(); i++) {
+                System.out.println("    " + said.get(i));
+            }
+            return false;
+        }
     }
 
     private static long call(BaileyChain x, String method, long[] arguments) {

@@ -103,6 +103,21 @@ public final class PromiseTests {
         return show(x, 5);
     }
 
+    /** Tells series apart by few calls, as an object is promised for 512 of them. */
+    private static String mark(BaileyChain x, int register) {
+        return x.statistic(register, 0) + " terms, " + x.valueAt(register, 1000) + " " + x.valueAt(register, -7);
+    }
+
+    private static String alphaMark(BaileyChain x, int n) {
+        x.copyAlpha(5, n);
+        return mark(x, 5);
+    }
+
+    private static String betaMark(BaileyChain x, int n) {
+        x.copyBeta(5, n);
+        return mark(x, 5);
+    }
+
     private static String partition(BaileyChain x, int index) {
         StringBuilder text = new StringBuilder();
         for (int i = 0; x.part(index, i) > 0; i++) {
@@ -741,15 +756,20 @@ public final class PromiseTests {
         due("undoStep", x.undoStep(), -5);
         x.setAlpha(0, 0);
         due("after setAlpha", x.undoStep(), -5);
+        undoAtTheHighestPrecision();
+    }
+
+    private static void undoAtTheHighestPrecision() {
+        BaileyChain x = new BaileyChain();
         x.reset(24);
-        String[] betas = new String[15];
+        String[] pairs = new String[15];
         for (int i = 0; i < 15; i++) {
-            betas[i] = alpha(x, 1) + beta(x, 4);
+            pairs[i] = alphaMark(x, 1) + ", " + betaMark(x, 4);
             x.step();
         }
         for (int i = 14; i >= 7; i--) {
             due("undoStep", x.undoStep(), i);
-            due("the pair before it", alpha(x, 1) + beta(x, 4), betas[i]);
+            due("the pair before it", alphaMark(x, 1) + ", " + betaMark(x, 4), pairs[i]);
         }
     }
 
@@ -1032,18 +1052,17 @@ public final class PromiseTests {
 
     private static void parseSeries() {
         promise = 34;
-        BaileyChain x = new BaileyChain();
         String[] good = {
             "0", "0", "1-q+3q^5", "1-q+3q^5", "-q", "-q", "q", "q", "q^0", "1", "-q^2-3", "-3-q^2", "0001", "1",
             "q^00", "1", "q^01+q^1", "2q", "9999q^11", "9999q^11", "q^12", "0", "7q^99+1", "1", "1+1+1-5", "-2",
             "q-q", "0", "0q^3+2q^3-3q^03", "-q^3", "-0", "0", "2q", "2q", "-1q", "-q", "9999+9999", "19998",
         };
         for (int i = 0; i < good.length; i += 2) {
+            BaileyChain x = new BaileyChain();
             due("terms of " + good[i], parse(x, 1, good[i]), x.statistic(1, 0));
             due("the series " + good[i], show(x, 1), good[i + 1]);
             due("the text is consumed", x.clearInput(), 0);
         }
-        due("terms", parse(x, 1, "1-q+3q^5+q^20"), 3);
         String[] bad = {
             "", "-", "+", "+1", "--1", "1+", "1-", "1++1", "1+-1", "12345", "q^", "q^q", "q^123", "1q^123", "1q2", "qq",
             "2qq", "1^2", "^", "q^-1", "1 +1", "a", "Q", "1+a", "q^99x", "q^1+1234q^12345", "1+12345", "9q^+", "1*q",
@@ -1053,10 +1072,17 @@ public final class PromiseTests {
             0, 1, 0, 0, 1, 2, 2, 2, 2, 4, 2, 2, 4, 5, 2, 1, 2, 1, 0, 2, 1, 0, 0, 2, 4, 12, 6, 3, 1, 2, 0, 0, 1, 3,
         };
         for (int i = 0; i < bad.length; i++) {
+            BaileyChain x = new BaileyChain();
+            due("terms", parse(x, 1, "1-q+3q^5+q^20"), 3);
             due("the text " + bad[i], parse(x, 1, bad[i]), -1000 - position[i]);
             due("the text is consumed", x.clearInput(), 0);
+            due("unchanged", show(x, 1), "1-q+3q^5");
         }
-        due("unchanged", show(x, 1), "1-q+3q^5");
+        parseSeriesWithFullBuffer();
+    }
+
+    private static void parseSeriesWithFullBuffer() {
+        BaileyChain x = new BaileyChain();
         type(x, "2q");
         due("register 6", x.parseSeries(6), -2);
         due("register -1", x.parseSeries(-1), -2);
@@ -1090,6 +1116,11 @@ public final class PromiseTests {
         due("register 6", x.format(6), -2);
         due("register -1", x.format(-1), -2);
         due("the text stays", x.outputByte(2), '1');
+        formatLongest();
+    }
+
+    private static void formatLongest() {
+        BaileyChain x = new BaileyChain();
         x.reset(24);
         StringBuilder want = new StringBuilder();
         for (int k = 0; k < 24; k++) {
@@ -1314,7 +1345,7 @@ public final class PromiseTests {
             x.step();
         }
         x.undoStep();
-        String pair = alpha(x, 0) + alpha(x, 1) + beta(x, 1) + beta(x, 4);
+        String pair = wholePair(x);
         x.snapshot();
         x.listPartitions(3);
         type(x, "4q");
@@ -1340,7 +1371,7 @@ public final class PromiseTests {
         }
         due("clearInput", x.clearInput(), 2);
         due("restore", x.restore(), 24);
-        due("the pair", alpha(x, 0) + alpha(x, 1) + beta(x, 1) + beta(x, 4), pair);
+        due("the pair", wholePair(x), pair);
         x.reset(24);
         x.restore();
         due("alpha(1) of r = 1", alpha(x, 1), "-q^16-q^17-q^18");
@@ -1402,7 +1433,7 @@ public final class PromiseTests {
     private static String wholePair(BaileyChain x) {
         StringBuilder text = new StringBuilder();
         for (int n = 0; n < 5; n++) {
-            text.append(alpha(x, n)).append(' ').append(beta(x, n)).append(' ');
+            text.append(alphaMark(x, n)).append(", ").append(betaMark(x, n)).append("; ");
         }
         return text.toString();
     }

@@ -4,7 +4,7 @@ import java.lang.management.ManagementFactory;
 /** No call makes objects: what a calculator needs is made by its constructor, and that is small. */
 public final class RoomTests {
     private static final ThreadMXBean THREADS = (ThreadMXBean) ManagementFactory.getThreadMXBean();
-    private static final int ROUNDS = 64;
+    private static final int OBJECTS = 32;
     private static int wrong = 0;
 
     private static void check(String what, long bytes, long most) {
@@ -19,13 +19,17 @@ public final class RoomTests {
         callAll(new BaileyChain());
         allocated();
 
+        BaileyChain[] objects = new BaileyChain[OBJECTS];
         long before = allocated();
-        BaileyChain x = new BaileyChain();
-        check("the constructor", allocated() - before, 60000);
+        for (int i = 0; i < OBJECTS; i++) {
+            objects[i] = new BaileyChain();
+        }
+        check("a constructor", (allocated() - before) / OBJECTS, 60000);
 
         before = allocated();
-        for (int round = 0; round < ROUNDS; round++) {
-            callAll(x);
+        for (BaileyChain object : objects) {
+            callAll(object);
+            callAll(object);
         }
         check("the calls", allocated() - before, 4000);
 
